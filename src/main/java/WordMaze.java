@@ -133,7 +133,7 @@ public final class WordMaze {
         if (!maze.shape.holds(room) || !isDirection(direction) || open < 0 || open > 1) {
             return INVALID_ARGUMENT;
         }
-        if (maze.shape.beside(room, direction) == NONE) {
+        if (!maze.shape.hasDoor(room, direction)) {
             return NOT_FOUND;
         }
         history.keep(maze.state);
@@ -151,7 +151,7 @@ public final class WordMaze {
             case 0: return maze.state.size;
             case 1: return maze.shape.width;
             case 2: return maze.shape.roomCount;
-            case 3: return maze.doorCount();
+            case 3: return maze.shape.doorCount;
             case 4: return maze.openCount();
             case 5: return ways.findParts(maze);
             case 6: return ways.loopCount(maze);
@@ -160,8 +160,8 @@ public final class WordMaze {
             case 9: return maze.roomsWithDoors(3, 4);
             case 10: return maze.state.start;
             case 11: return maze.state.goal;
-            case 12: return maze.signCount();
-            case 13: return maze.countingSigns();
+            case 12: return maze.signCount(false);
+            case 13: return maze.signCount(true);
             case 14: return history.length;
             case 15: return text.length;
             default: return INVALID_ARGUMENT;
@@ -268,12 +268,12 @@ public final class WordMaze {
         if (!maze.shape.holds(room) || !isSign(kind, direction)) {
             return INVALID_ARGUMENT;
         }
-        if (!maze.hasSign(room) && maze.signCount() >= MOST_SIGNS) {
+        if (!maze.hasSign(room) && maze.signCount(false) >= MOST_SIGNS) {
             return LIMIT_REACHED;
         }
         history.keep(maze.state);
         maze.putSign(room, kind, direction);
-        return maze.signCount();
+        return maze.signCount(false);
     }
 
     public int unsign(int room) {
@@ -478,6 +478,7 @@ public final class WordMaze {
         int width;
         int cellCount;
         int roomCount;
+        int doorCount;
         int lowest;
 
         void build(State state) {
@@ -490,14 +491,14 @@ public final class WordMaze {
             for (int column = 0; column < width && column < MOST_WIDTH; column++) {
                 owners.put(baseCell() + column, BASE);
             }
-            countRooms();
+            countRoomsAndDoors();
         }
 
         private void layLetter(int place, int code) {
             for (int row = 0; row < LETTER_SIDE; row++) {
                 int pattern = patternRow(code, row);
                 for (int column = 0; column < LETTER_SIDE; column++) {
-                    if ((pattern >> (LETTER_SIDE - 1 - column) & 1) == 1) {
+                    if (((pattern >> (LETTER_SIDE - 1 - column)) & 1) == 1) {
                         owners.put(row * width + LETTER_PITCH * place + column, FIRST_LETTER + place);
                     }
                 }
@@ -509,13 +510,16 @@ public final class WordMaze {
             return index >= 0 && index < PATTERNS.length ? PATTERNS[index] : 0;
         }
 
-        private void countRooms() {
+        private void countRoomsAndDoors() {
             roomCount = 0;
+            doorCount = 0;
             lowest = NONE;
             for (int cell = 0; cell < MOST_CELLS; cell++) {
                 if (holds(cell)) {
                     roomCount++;
                     lowest = lowest == NONE ? cell : lowest;
+                    doorCount += hasDoor(cell, RIGHT) ? 1 : 0;
+                    doorCount += hasDoor(cell, DOWN) ? 1 : 0;
                 }
             }
         }
@@ -551,11 +555,15 @@ public final class WordMaze {
         /** The room in a direction of a room, or NONE. */
         int beside(int room, int direction) {
             int column = width > 0 ? room % width : 0;
-            if (direction == RIGHT && column == width - 1 || direction == LEFT && column == 0) {
+            if ((direction == RIGHT && column == width - 1) || (direction == LEFT && column == 0)) {
                 return NONE;
             }
             int next = room + stride(direction);
             return holds(next) ? next : NONE;
+        }
+
+        boolean hasDoor(int cell, int direction) {
+            return holds(cell) && beside(cell, direction) != NONE;
         }
     }
 
@@ -574,7 +582,7 @@ public final class WordMaze {
         }
 
         boolean isOpen(int room, int direction) {
-            return (state.open.at(room) >> direction & 1) == 1;
+            return ((state.open.at(room) >> direction) & 1) == 1;
         }
 
         int openDoors(int room) {
@@ -594,23 +602,6 @@ public final class WordMaze {
             int bit = 1 << direction;
             int mask = state.open.at(room);
             state.open.put(room, open ? mask | bit : mask & ~bit);
-        }
-
-        int doorCount() {
-            int found = 0;
-            for (int cell = 0; cell < MOST_CELLS; cell++) {
-                for (int direction = RIGHT; direction <= DOWN; direction++) {
-                    if (isFirstOf(cell, direction)) {
-                        found++;
-                    }
-                }
-            }
-            return found;
-        }
-
-        /** Whether there is a door of which the cell is the first room, as all doors are found once so. */
-        boolean isFirstOf(int cell, int direction) {
-            return shape.holds(cell) && shape.beside(cell, direction) != NONE;
         }
 
         int openCount() {
@@ -656,11 +647,11 @@ public final class WordMaze {
         }
 
         int signKind(int room) {
-            return state.signs.at(room) - 1 >> 2;
+            return (state.signs.at(room) - 1) >> 2;
         }
 
         int signOwnDirection(int room) {
-            return state.signs.at(room) - 1 & 3;
+            return (state.signs.at(room) - 1) & 3;
         }
 
         void putSign(int room, int kind, int direction) {
@@ -671,20 +662,10 @@ public final class WordMaze {
             state.signs.put(room, 0);
         }
 
-        int signCount() {
+        int signCount(boolean countingOnly) {
             int found = 0;
             for (int cell = 0; cell < MOST_CELLS; cell++) {
-                if (hasSign(cell)) {
-                    found++;
-                }
-            }
-            return found;
-        }
-
-        int countingSigns() {
-            int found = 0;
-            for (int cell = 0; cell < MOST_CELLS; cell++) {
-                if (signCounts(cell)) {
+                if (countingOnly ? signCounts(cell) : hasSign(cell)) {
                     found++;
                 }
             }
@@ -692,7 +673,6 @@ public final class WordMaze {
         }
     }
 
-    /** Opens the doors from a seed. */
     private static final class Opener {
         /** Doors as 4 * first room + direction. */
         private final Row order = new Row(MOST_DOORS);
@@ -724,7 +704,7 @@ public final class WordMaze {
             int doors = 0;
             for (int cell = 0; cell < MOST_CELLS; cell++) {
                 for (int direction = RIGHT; direction <= DOWN; direction++) {
-                    if (maze.isFirstOf(cell, direction)) {
+                    if (maze.shape.hasDoor(cell, direction)) {
                         order.put(doors, DIRECTIONS * cell + direction);
                         doors++;
                     }
@@ -914,7 +894,7 @@ public final class WordMaze {
                 return maze.isOpen(room, own) ? own : NONE;
             }
             int first = firstDirection(maze, room);
-            return first == NONE || kind == TRUE_SIGN ? first : openBehind(maze, room, first);
+            return (first == NONE || kind == TRUE_SIGN) ? first : openBehind(maze, room, first);
         }
 
         private int openBehind(Maze maze, int room, int direction) {
@@ -1026,7 +1006,7 @@ public final class WordMaze {
             if (direction < 0) {
                 return NO_MOVE;
             }
-            if (maze.shape.beside(room, direction) == NONE) {
+            if (!maze.shape.hasDoor(room, direction)) {
                 return NO_ROOM_THERE;
             }
             if (!maze.isOpen(room, direction)) {

@@ -172,6 +172,8 @@ public final class DoorsTest {
         }
         check.due("forks with four doors", four.count(9), 1);
         check.due("dead ends with four doors", four.count(8), 4);
+        four.door(0, 2, 1);
+        check.due("a dead end in the cell 0", four.count(8), 6);
         twoPartsAndLoop();
         int[] bad = {Integer.MIN_VALUE, -1, 16, Integer.MAX_VALUE};
         for (int what : bad) {

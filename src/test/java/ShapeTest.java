@@ -17,6 +17,7 @@ public final class ShapeTest {
         test.noWord();
         test.letterOf();
         test.eachLetter();
+        test.drawings();
         test.letterErrors();
         test.isRoom();
         test.check.end();
@@ -141,6 +142,7 @@ public final class ShapeTest {
                 check.due("letter(" + place + ", 3) of " + letter, maze.letter(place, 3), due[2]);
                 check.due("letter(" + place + ", 4) of " + letter, maze.letter(place, 4), due[3]);
             }
+            check.due("letter(0, 2) of the closed " + letter, alone.letter(0, 2), due[2]);
             check.due("letter(0, 3) of the closed " + letter, alone.letter(0, 3), 0);
             check.due("letter(0, 4) of the closed " + letter, alone.letter(0, 4), 0);
         }
@@ -153,6 +155,26 @@ public final class ShapeTest {
         check.due("letter(0, 4) with one door", maze.letter(0, 4), 1);
         check.due("letter(1, 3) with no door", maze.letter(1, 3), 0);
         check.due("letter(1, 4) with no door", maze.letter(1, 4), 0);
+    }
+
+    /** Each letter in each place, cell by cell. */
+    private void drawings() {
+        for (String shape : Model.SHAPES) {
+            String[] words = shape.split(" ");
+            for (int place = 0; place < 6; place++) {
+                WordMaze maze = Mazes.of("WWWWWW".substring(0, place) + words[0] + "OOOOOO".substring(place + 1));
+                for (int row = 0; row < 5; row++) {
+                    for (int column = 0; column < 5; column++) {
+                        int due = Integer.parseInt(words[row + 1]) >> (4 - column) & 1;
+                        String call = "row " + row + ", column " + column + " of " + words[0] + " at " + place;
+                        check.due(call, maze.isRoom(35 * row + 6 * place + column), due);
+                    }
+                    if (place < 5) {
+                        check.due("the gap behind " + words[0], maze.isRoom(35 * row + 6 * place + 5), 0);
+                    }
+                }
+            }
+        }
     }
 
     private void letterErrors() {

@@ -181,6 +181,37 @@ public final class WaysTest {
         wide.goal(209);
         check.due("grade is at most 9", wide.grade(), 9);
         check.due("grade of the seed 7", seeded("HI", 7).grade(), 2);
+        manyForks();
+    }
+
+    /** A base row with open doors upward at the columns 1 to 3: each is a fork on the way from 25 to 29. */
+    private void manyForks() {
+        WordMaze maze = Mazes.of("O");
+        maze.goal(29);
+        for (int cell = 25; cell < 29; cell++) {
+            maze.door(cell, 1, 1);
+        }
+        check.due("4 doors", maze.grade(), 0);
+        maze.door(26, 0, 1);
+        // (4 + 4 + 0) / 10
+        check.due("4 doors, a fork, a room aside", maze.grade(), 0);
+        maze.door(27, 0, 1);
+        // (4 + 8 + 1) / 10
+        check.due("4 doors, 2 forks, 2 rooms aside", maze.grade(), 1);
+        maze.door(28, 0, 1);
+        // (4 + 12 + 1) / 10
+        check.due("4 doors, 3 forks, 3 rooms aside", maze.grade(), 1);
+        maze.door(21, 3, 1);
+        // (4 + 12 + 2) / 10
+        check.due("4 doors, 3 forks, 4 rooms aside", maze.grade(), 1);
+        maze.door(20, 0, 1);
+        maze.door(15, 0, 1);
+        maze.door(10, 0, 1);
+        // (4 + 12 + 3) / 10
+        check.due("4 doors, 3 forks, 7 rooms aside", maze.grade(), 1);
+        maze.door(5, 0, 1);
+        // (4 + 12 + 4) / 10
+        check.due("4 doors, 3 forks, 8 rooms aside", maze.grade(), 2);
     }
 
     private WordMaze seeded(String word, int seed) {
