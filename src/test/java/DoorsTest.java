@@ -41,15 +41,16 @@ public final class DoorsTest {
         for (int[] door : closed) {
             shut.add(door[0] + " " + door[1]);
         }
-        int width = maze.count(1);
-        for (int cell = 0; cell < 6 * width; cell++) {
-            for (int direction = 0; direction < 4 && maze.isRoom(cell) == 1; direction++) {
-                int other = cell + new int[] {-width, 1, width, -1}[direction];
-                boolean wraps = direction % 2 == 1 && other / width != cell / width;
-                boolean there = other >= 0 && !wraps && maze.isRoom(other) == 1;
-                boolean open = there && !shut.contains(Math.min(cell, other) + " " + Math.max(cell, other));
-                check.due(name + "door " + cell + " " + direction, maze.doors(cell) >> direction & 1, open ? 1 : 0);
+        Model model = Mazes.model(word);
+        for (int cell : model.rooms()) {
+            int due = 0;
+            for (int direction = 0; direction < 4; direction++) {
+                int other = model.next(cell, direction);
+                if (other >= 0 && !shut.contains(Math.min(cell, other) + " " + Math.max(cell, other))) {
+                    due |= 1 << direction;
+                }
             }
+            check.due(name + "doors(" + cell + ")", maze.doors(cell), due);
         }
     }
 

@@ -44,8 +44,12 @@ final class Model {
         return rooms;
     }
 
-    String text() {
-        return text;
+    List<List<Integer>> allDoors() {
+        return doors;
+    }
+
+    int width() {
+        return width;
     }
 
     private void draw() {
@@ -78,7 +82,7 @@ final class Model {
         distances = null;
     }
 
-    private boolean room(int cell) {
+    boolean room(int cell) {
         return cell >= 0 && cell < drawing.length() && drawing.charAt(cell) == '1';
     }
 

@@ -12,10 +12,14 @@ public final class RandomRunsTest {
         205, 209, 210, 211, 2000, 2001, 65535, 65536, 65537, Integer.MAX_VALUE - 1, Integer.MAX_VALUE
     };
 
+    /** What an object answers behind so many calls is free. */
+    private static final int MOST_CALLS = 512;
+
     private final Check check = new Check("RandomRunsTest");
     /** For each call how often it answered each error, at last how often none. */
     private final int[][] seen = new int[NAMES.length][5];
     private long state;
+    private int made;
     private WordMaze maze;
     private Model model;
 
@@ -37,16 +41,15 @@ public final class RandomRunsTest {
         state = run * 77777L;
         maze = new WordMaze();
         model = new Model();
-        int calls = 0;
+        made = 0;
         boolean mostlyText = run % 5 == 0;
         boolean manySigns = run % 5 == 1;
-        for (; calls < 512; calls++) {
-            if (below(60) == 0 || calls == 3) {
-                calls += setWord(run);
+        while (made < MOST_CALLS) {
+            if (below(60) == 0 || made == 3) {
+                setWord(run);
             }
             if (below(40) == 0) {
                 call(run, 4, below(65536), 0, 0);
-                calls++;
             }
             int k = below(NAMES.length);
             if (mostlyText && below(2) == 0) {
@@ -62,14 +65,13 @@ public final class RandomRunsTest {
         }
     }
 
-    private int setWord(int run) {
+    private void setWord(int run) {
         int length = 1 + below(6);
         call(run, 24, 0, 0, 0);
         for (int k = 0; k < length; k++) {
             call(run, 23, Model.KNOWN.charAt(below(Model.KNOWN.length())), 0, 0);
         }
         call(run, 0, 0, 0, 0);
-        return length + 2;
     }
 
     private int some(int bound) {
@@ -145,6 +147,10 @@ public final class RandomRunsTest {
     }
 
     private void call(int run, int k, int a, int b, int c) {
+        if (made >= MOST_CALLS) {
+            return;
+        }
+        made++;
         int answer = ask(k, a, b, c);
         int due = askModel(k, a, b, c);
         seen[k][due < 0 ? -due - 1 : 4]++;

@@ -42,7 +42,7 @@ public final class RoomTest {
         for (int k = 0; k < 6; k++) {
             maze.type('W');
         }
-        for (int k = 0; k < 20; k++) {
+        for (int k = 0; k < 15; k++) {
             maze.word();
             maze.make(k);
             maze.sign(175, 2, 1);

@@ -1,3 +1,8 @@
+import java.io.IOException;
+import java.nio.charset.StandardCharsets;
+import java.nio.file.Files;
+import java.nio.file.Path;
+
 /** Promises 1 to 5: a new object, word, letterOf, letter, isRoom. */
 public final class ShapeTest {
     private static final int[][] BY_HAND = {
@@ -9,8 +14,10 @@ public final class ShapeTest {
 
     private final Check check = new Check("ShapeTest");
 
-    public static void main(String[] args) {
+    public static void main(String[] args) throws IOException {
         ShapeTest test = new ShapeTest();
+        test.drawingsOfTheDocument();
+        test.columns();
         test.newObject();
         test.word();
         test.wordMakesAnew();
@@ -21,6 +28,44 @@ public final class ShapeTest {
         test.letterErrors();
         test.isRoom();
         test.check.end();
+    }
+
+    /** The rows that the tests go by are those of the document. */
+    private void drawingsOfTheDocument() throws IOException {
+        String document = Files.readString(Path.of("../shared/DOC.md"), StandardCharsets.UTF_8) + " ";
+        for (String shape : Model.SHAPES) {
+            check.due("the rows " + shape, document.split(shape + "\\s", -1).length, 2);
+        }
+        check.due("letters", Model.SHAPES.length, 15);
+    }
+
+    /** Columns: 0 and 4 of a letter belong to it, 5 to none, and behind the last letter there is no column. */
+    private void columns() {
+        for (int n = 1; n <= 6; n++) {
+            WordMaze maze = Mazes.of("UUUUUU".substring(0, n));
+            int width = 6 * n - 1;
+            check.due("n of " + n + " letters", maze.count(0), n);
+            check.due("W of " + n + " letters", maze.count(1), width);
+            check.due("rooms of " + n + " letters", maze.count(2), 13 * n + width);
+            check.due("doors of " + n + " letters", maze.count(3), 17 * n + width - 1);
+            check.due("start of " + n + " letters", maze.count(10), 5 * width);
+            for (int k = 0; k < n; k++) {
+                for (int row = 0; row < 5; row++) {
+                    int first = row * width + 6 * k;
+                    check.due("the first column of the letter " + k, maze.letterOf(first), k);
+                    check.due("the last column of the letter " + k, maze.letterOf(first + 4), k);
+                    if (k < n - 1) {
+                        check.due("the gap behind the letter " + k, maze.isRoom(first + 5), 0);
+                        check.due("the gap's letter behind " + k, maze.letterOf(first + 5), -1);
+                    }
+                }
+                check.due("the base row below the letter " + k, maze.letterOf(5 * width + 6 * k), -4);
+            }
+            check.due("the last cell", maze.isRoom(6 * width - 1), 1);
+            check.due("behind the last cell", maze.isRoom(6 * width), -1);
+            check.due("the last letter's last room", maze.letterOf(5 * width - 1), n - 1);
+            check.due("the base row's first room", maze.letterOf(5 * width), -4);
+        }
     }
 
     private void newObject() {

@@ -55,10 +55,10 @@ public final class WaysTest {
         check.due("again of closed doors", maze.again(0, 55), -2);
         check.due("again of one room with closed doors", maze.again(0, 0), -2);
         for (int seed = 0; seed < 20; seed++) {
-            maze.make(seed);
-            for (int a = 0; a < 66; a += 1) {
-                check.due("again(" + a + ", 8)", maze.again(a, 8), maze.distance(a, 8));
-                check.due("again(60, " + a + ")", maze.again(60, a), maze.distance(60, a));
+            WordMaze made = Mazes.made("HI", seed);
+            for (int a : Mazes.model("HI").rooms()) {
+                check.due("again(" + a + ", 8)", made.again(a, 8), made.distance(a, 8));
+                check.due("again(60, " + a + ")", made.again(60, a), made.distance(60, a));
             }
         }
         WordMaze tree = Mazes.opened("I");
@@ -180,7 +180,7 @@ public final class WaysTest {
         wide.start(175);
         wide.goal(209);
         check.due("grade is at most 9", wide.grade(), 9);
-        check.due("grade of the seed 7", seeded("HI", 7).grade(), 2);
+        check.due("grade of the seed 7", Mazes.made("HI", 7).grade(), 2);
         manyForks();
     }
 
@@ -212,12 +212,6 @@ public final class WaysTest {
         maze.door(5, 0, 1);
         // (4 + 12 + 4) / 10
         check.due("4 doors, 3 forks, 8 rooms aside", maze.grade(), 2);
-    }
-
-    private WordMaze seeded(String word, int seed) {
-        WordMaze maze = Mazes.of(word);
-        maze.make(seed);
-        return maze;
     }
 
     /** The base row of TT with 21 rooms at most: each door more adds 1 behind the start, each room aside a half. */
