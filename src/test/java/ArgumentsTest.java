@@ -56,7 +56,7 @@ public final class ArgumentsTest {
             WordMaze maze = Mazes.of(word);
             Model model = Mazes.model(word);
             int cells = 6 * model.width();
-            for (int cell = -3; cell < cells + 40; cell++) {
+            for (int cell = -3; cell < cells + 20; cell++) {
                 int answer = call.ask(maze, cell);
                 String text = name + " of the cell " + cell + " of " + word;
                 check.due(text + " is refused", answer == -1 ? 1 : 0, model.room(cell) ? 0 : 1);

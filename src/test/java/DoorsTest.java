@@ -18,8 +18,13 @@ public final class DoorsTest {
             {168, 203}, {171, 172}, {172, 173}, {173, 208}, {176, 177}, {181, 182}, {182, 183}, {184, 185},
             {195, 196}, {201, 202}, {205, 206}});
         test.makeAgain();
+        test.manyMakes();
         test.makeErrors();
         test.door();
+        test.neighbors();
+        test.closedAtFirst();
+        test.leastAndMostDoors();
+        test.openedFromNumbers();
         test.doorErrors();
         test.doorsErrors();
         test.count();
@@ -67,6 +72,19 @@ public final class DoorsTest {
         check.due("make of a single room's seed", Mazes.of("I").make(0), 9);
     }
 
+    /** What a seed opens does not hang on what was open, or made, before. */
+    private void manyMakes() {
+        WordMaze maze = Mazes.of("ACE");
+        int[] seeds = {65535, 1, 40000, 0, 2, 40000, 40000};
+        for (int seed : seeds) {
+            WordMaze once = Mazes.made("ACE", seed);
+            check.due("make(" + seed + ") behind others", maze.make(seed), once.count(2) - 1);
+            for (int room : Mazes.model("ACE").rooms()) {
+                check.due("doors(" + room + ") behind make(" + seed + ")", maze.doors(room), once.doors(room));
+            }
+        }
+    }
+
     private void makeErrors() {
         WordMaze maze = new WordMaze();
         int[] bad = {Integer.MIN_VALUE, -1, 65536, 65537, Integer.MAX_VALUE};
@@ -97,6 +115,101 @@ public final class DoorsTest {
         check.due("doors(57)", maze.doors(57), 2);
         check.due("open 59 up", maze.door(59, 0, 1), 0);
         check.due("doors(48)", maze.doors(48), 4);
+    }
+
+    /** There is a door just to the rooms that are next: not across a gap, nor from one row's end to the next row. */
+    private void neighbors() {
+        for (String word : new String[] {"H", "HI", "OOOOOO", "SCMEPU", "TWGLAF"}) {
+            Model model = Mazes.model(word);
+            for (int direction = 0; direction < 4; direction++) {
+                WordMaze maze = Mazes.of(word);
+                for (int room : model.rooms()) {
+                    int due = model.next(room, direction) < 0 ? -4 : 0;
+                    check.due("door(" + room + ", " + direction + ", 1) of " + word, maze.door(room, direction, 1), due);
+                }
+            }
+        }
+        WordMaze wide = Mazes.of("HHHHHH");
+        check.due("right from the last column into the next row", wide.door(34, 1, 1), -4);
+        check.due("left from the first column into the row above", wide.door(35, 3, 1), -4);
+        check.due("right from the last column of the row 4", wide.door(174, 1, 1), -4);
+        check.due("left from the first cell of the base row", wide.door(175, 3, 1), -4);
+        check.due("right from the last cell", wide.door(209, 1, 1), -4);
+        check.due("down from the last cell", wide.door(209, 2, 1), -4);
+        check.due("up from the first cell", wide.door(0, 0, 1), -4);
+        check.due("left from the first cell", wide.door(0, 3, 1), -4);
+        check.due("no door was opened", wide.count(4), 0);
+        WordMaze beside = Mazes.of("EE");
+        check.due("right from a letter to the next one", beside.door(4, 1, 1), -4);
+        check.due("left from a letter to the one before", beside.door(6, 3, 1), -4);
+        check.due("from a letter down to the base row", beside.door(48, 2, 1), 0);
+        check.due("from the base row up to the letter", beside.door(59, 0, 1), 1);
+        check.due("along the base row below the gap", beside.door(59, 1, 1), 0);
+    }
+
+    private void closedAtFirst() {
+        for (String word : new String[] {"H", "OUT", "WWWWWW"}) {
+            WordMaze maze = Mazes.made(word, 8);
+            Mazes.type(maze, word);
+            maze.word();
+            check.due("open doors of the new " + word, maze.count(4), 0);
+            for (int room : Mazes.model(word).rooms()) {
+                check.due("doors(" + room + ") of the new " + word, maze.doors(room), 0);
+            }
+        }
+    }
+
+    private void leastAndMostDoors() {
+        for (String word : new String[] {"I", "O", "HI", "AE", "WAM", "OOOOOO"}) {
+            Model model = Mazes.model(word);
+            int rooms = model.rooms().size();
+            int doors = model.allDoors().size();
+            WordMaze closed = Mazes.of(word);
+            check.due("parts of the closed " + word, closed.count(5), rooms);
+            check.due("loops of the closed " + word, closed.count(6), 0);
+            check.due("the closed " + word + " is single", closed.count(7), 0);
+            check.due("dead ends of the closed " + word, closed.count(8), 0);
+            check.due("forks of the closed " + word, closed.count(9), 0);
+            check.due("the last room's part in the closed " + word, closed.part(6 * model.width() - 1), rooms - 1);
+            WordMaze open = Mazes.opened(word);
+            check.due("open doors of the open " + word, open.count(4), doors);
+            check.due("parts of the open " + word, open.count(5), 1);
+            check.due("loops of the open " + word, open.count(6), doors - rooms + 1);
+            check.due("the open " + word + " is single", open.count(7), doors == rooms - 1 ? 1 : 0);
+            check.due("the last room's part in the open " + word, open.part(6 * model.width() - 1), 0);
+            check.due("make of the open " + word, open.make(77), rooms - 1);
+            check.due("single behind make of " + word, open.count(7), 1);
+        }
+    }
+
+    /** The doors of "L", written out by their numbers, in the row that the greatest seed gives. */
+    private void openedFromNumbers() {
+        long z = 65535;
+        int[][] doors = {
+            {0, 5}, {5, 10}, {10, 15}, {15, 20}, {20, 21}, {20, 25}, {21, 22}, {21, 26}, {22, 23}, {22, 27}, {23, 24},
+            {23, 28}, {24, 29}, {25, 26}, {26, 27}, {27, 28}, {28, 29}
+        };
+        check.due("doors of L", Mazes.of("L").count(3), doors.length);
+        for (int k = doors.length - 1; k >= 1; k--) {
+            z = (75 * z + 74) % 65537;
+            int[] kept = doors[k];
+            doors[k] = doors[(int) (z % (k + 1))];
+            doors[(int) (z % (k + 1))] = kept;
+        }
+        int[] part = new int[30];
+        for (int cell = 0; cell < 30; cell++) {
+            part[cell] = cell;
+        }
+        WordMaze maze = Mazes.made("L", 65535);
+        for (int[] door : doors) {
+            int gone = part[door[0]];
+            boolean opened = gone != part[door[1]];
+            for (int cell = 0; cell < 30; cell++) {
+                part[cell] = part[cell] == gone ? part[door[1]] : part[cell];
+            }
+            int direction = door[1] - door[0] == 1 ? 1 : 2;
+            check.due("door " + door[0] + " to " + door[1], maze.doors(door[0]) >> direction & 1, opened ? 1 : 0);
+        }
     }
 
     private void doorErrors() {

@@ -1,8 +1,3 @@
-import java.io.IOException;
-import java.nio.charset.StandardCharsets;
-import java.nio.file.Files;
-import java.nio.file.Path;
-
 /** Promises 1 to 5: a new object, word, letterOf, letter, isRoom. */
 public final class ShapeTest {
     private static final int[][] BY_HAND = {
@@ -14,9 +9,8 @@ public final class ShapeTest {
 
     private final Check check = new Check("ShapeTest");
 
-    public static void main(String[] args) throws IOException {
+    public static void main(String[] args) {
         ShapeTest test = new ShapeTest();
-        test.drawingsOfTheDocument();
         test.columns();
         test.newObject();
         test.word();
@@ -28,15 +22,6 @@ public final class ShapeTest {
         test.letterErrors();
         test.isRoom();
         test.check.end();
-    }
-
-    /** The rows that the tests go by are those of the document. */
-    private void drawingsOfTheDocument() throws IOException {
-        String document = Files.readString(Path.of("../shared/DOC.md"), StandardCharsets.UTF_8) + " ";
-        for (String shape : Model.SHAPES) {
-            check.due("the rows " + shape, document.split(shape + "\\s", -1).length, 2);
-        }
-        check.due("letters", Model.SHAPES.length, 15);
     }
 
     /** Columns: 0 and 4 of a letter belong to it, 5 to none, and behind the last letter there is no column. */

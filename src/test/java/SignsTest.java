@@ -13,6 +13,11 @@ public final class SignsTest {
         test.walk();
         test.walkWithSigns();
         test.turns();
+        test.turnsFromEachDirection();
+        test.firstTurn();
+        test.signsInForksAlone();
+        test.signsThatPointNowhere();
+        test.walkedAtItsEnds();
         test.walkErrors();
         test.undo();
         test.undoWords();
@@ -247,6 +252,129 @@ public final class SignsTest {
         check.due("coming from the right", maze.walk(2, 0), 12);
         maze.door(11, 1, 0);
         check.due("with one door", maze.walk(1, 0), 13);
+    }
+
+    /** The crossing 22 of "W" with its neighbors up, right, down and left. */
+    private static final int[] AROUND = {17, 23, 27, 21};
+
+    /** The walker enters the crossing from each direction; its doors are closed in the order in which it takes them. */
+    private void turnsFromEachDirection() {
+        for (int from = 0; from < 4; from++) {
+            WordMaze maze = Mazes.of("W");
+            for (int direction = 0; direction < 4; direction++) {
+                maze.door(22, direction, 1);
+            }
+            maze.start(AROUND[from]);
+            check.due("into the crossing from " + from, maze.walk(1, 0), 22);
+            for (int turn = 1; turn <= 4; turn++) {
+                int to = (from + turn) % 4;
+                check.due("from " + from + " to the turn " + turn, maze.walk(2, 0), AROUND[to]);
+                maze.door(22, to, turn == 4 ? 1 : 0);
+            }
+            check.due("with one door for ever", maze.walk(2000, 2), 2);
+            check.due("with one door, an even step", maze.walk(2000, 0), AROUND[from]);
+            check.due("with one door, an odd step", maze.walk(1999, 0), 22);
+        }
+    }
+
+    /** At the start it comes from below: left, up, right, down. */
+    private void firstTurn() {
+        WordMaze maze = Mazes.of("W");
+        for (int direction = 0; direction < 4; direction++) {
+            maze.door(22, direction, 1);
+        }
+        maze.start(22);
+        int[] turns = {3, 0, 1, 2};
+        for (int direction : turns) {
+            check.due("first step to " + direction, maze.walk(1, 0), AROUND[direction]);
+            maze.door(22, direction, 0);
+        }
+        check.due("without a door: room", maze.walk(1, 0), 22);
+        check.due("without a door: steps", maze.walk(2000, 1), 0);
+        check.due("without a door: rooms", maze.walk(2000, 2), 1);
+        check.due("without a door: walked()", maze.walked(), -4);
+        maze.goal(22);
+        check.due("without a door in the goal: walked()", maze.walked(), 0);
+    }
+
+    /** A sign in a room with 0, 1, 2, 3 and 4 open doors. */
+    private void signsInForksAlone() {
+        WordMaze maze = Mazes.of("W");
+        maze.goal(21);
+        maze.start(22);
+        for (int kind = 0; kind < 3; kind++) {
+            maze.sign(22, kind, kind == 2 ? 3 : 0);
+            int due = kind == 1 ? 0 : 3;
+            for (int doors = 0; doors <= 4; doors++) {
+                if (doors > 0) {
+                    maze.door(22, 4 - doors, 1);
+                }
+                String name = "kind " + kind + " with " + doors + " doors: ";
+                int points = doors < 3 ? -2 : doors == 3 && kind == 1 ? 1 : due;
+                check.due(name + "points", maze.points(22), points);
+                check.due(name + "signs", maze.count(12), 1);
+                check.due(name + "signs that count", maze.count(13), doors < 3 ? 0 : 1);
+                int step = doors == 0 ? 22 : points < 0 ? 21 : AROUND[points];
+                check.due(name + "first step", maze.walk(1, 0), step);
+            }
+            for (int direction = 0; direction < 4; direction++) {
+                maze.door(22, direction, 0);
+            }
+        }
+    }
+
+    /** Where a sign points nowhere, the walker goes by its turns. */
+    private void signsThatPointNowhere() {
+        for (int kind = 0; kind < 3; kind++) {
+            WordMaze maze = Mazes.of("W");
+            maze.door(22, 0, 1);
+            maze.door(22, 1, 1);
+            maze.door(22, 2, 1);
+            maze.sign(22, kind, kind == 2 ? 3 : 0);
+            maze.start(27);
+            check.due("no way to the goal: points", maze.points(22), -4);
+            check.due("no way to the goal: second step", maze.walk(2, 0), 17);
+            maze.door(22, 0, 0);
+            check.due("no fork: points", maze.points(22), -2);
+            check.due("no fork: second step", maze.walk(2, 0), 23);
+            maze.door(22, 0, 1);
+            maze.goal(22);
+            check.due("in the goal: points", maze.points(22), -4);
+            check.due("in the goal: steps", maze.walk(2000, 1), 1);
+            check.due("in the goal: walked()", maze.walked(), 1);
+            maze.start(22);
+            check.due("the start in the goal: steps", maze.walk(2000, 1), 0);
+            check.due("the start in the goal: walked()", maze.walked(), 0);
+        }
+        WordMaze fixed = Mazes.opened("W");
+        fixed.goal(22);
+        fixed.sign(22, 2, 1);
+        check.due("a fixed one points in the goal too", fixed.points(22), 1);
+        check.due("the walker stays in the goal", fixed.walk(2000, 0), 22);
+    }
+
+    /** The walk's end: one step before the goal, in it, and behind; the goal 0 is a dead end in each single maze. */
+    private void walkedAtItsEnds() {
+        WordMaze maze = Mazes.made("WWWWWW", 65535);
+        maze.start(209);
+        int steps = maze.walked();
+        check.due("steps of the last walk", maze.walk(steps, 1), steps);
+        check.due("room of the last walk", maze.walk(steps, 0), 0);
+        check.due("one step before the goal: room", maze.walk(steps - 1, 0), 35);
+        check.due("one step before the goal: steps", maze.walk(steps - 1, 1), steps - 1);
+        check.due("one step more: steps", maze.walk(steps + 1, 1), steps);
+        check.due("one step more: room", maze.walk(steps + 1, 0), 0);
+        check.due("2000 steps", maze.walk(2000, 1), steps);
+        check.due("0 steps: room", maze.walk(0, 0), 209);
+        check.due("0 steps: steps", maze.walk(0, 1), 0);
+        check.due("0 steps: rooms", maze.walk(0, 2), 1);
+        // With the goal cut off the walker goes through all other rooms, and through each of the 135 doors twice.
+        maze.door(0, 2, 0);
+        check.due("walked() without a way", maze.walked(), -4);
+        check.due("rooms of a walk without a way", maze.walk(2000, 2), 136);
+        check.due("back in the start", maze.walk(270, 0), 209);
+        check.due("rooms when back in the start", maze.walk(270, 2), 136);
+        check.due("steps of a walk without a way", maze.walk(2000, 1), 2000);
     }
 
     private void walkErrors() {

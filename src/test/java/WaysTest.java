@@ -13,6 +13,7 @@ public final class WaysTest {
         test.longest();
         test.grade();
         test.gradeSteps();
+        test.eachGrade();
         test.roomsAreAsked();
         test.check.end();
     }
@@ -104,6 +105,13 @@ public final class WaysTest {
         due(square, new int[] {26, 21, 20});
         due(square, new int[] {25, 20, 21, 22, 23, 24});
         due(square, new int[] {24, 29, 28, 27, 26, 25});
+        // Opposite rooms of the ring: up ahead of down, right ahead of left.
+        due(maze, new int[] {5, 0, 1, 2, 3, 4, 9});
+        due(maze, new int[] {9, 4, 3, 2, 1, 0, 5});
+        due(maze, new int[] {2, 3, 4, 9, 14, 13, 12});
+        due(maze, new int[] {12, 13, 14, 9, 4, 3, 2});
+        due(maze, new int[] {1, 2, 3, 4, 9, 14, 13});
+        due(maze, new int[] {11, 12, 13, 14, 9, 4, 3});
     }
 
     private void due(WordMaze maze, int[] way) {
@@ -127,7 +135,22 @@ public final class WaysTest {
         check.due("farthest(2, 0) of its part", maze.farthest(2, 0), 22);
         check.due("farthest(27, 0) of its part", maze.farthest(27, 0), 25);
         check.due("farthest(27, 1) of its part", maze.farthest(27, 1), 2);
+        WordMaze bar = Mazes.of("T");
+        for (int cell = 0; cell < 4; cell++) {
+            bar.door(cell, 1, 1);
+        }
+        check.due("farthest(2, 0): the room 0 ahead of 4", bar.farthest(2, 0), 0);
+        check.due("farthest(2, 1)", bar.farthest(2, 1), 2);
+        check.due("farthest(4, 0)", bar.farthest(4, 0), 0);
+        check.due("farthest(4, 1)", bar.farthest(4, 1), 4);
+        check.due("farthest(1, 0)", bar.farthest(1, 0), 4);
+        bar.door(0, 1, 0);
+        check.due("farthest(3, 0) without 0", bar.farthest(3, 0), 1);
+        check.due("farthest(2, 0) without 0", bar.farthest(2, 0), 4);
         WordMaze closed = new WordMaze();
+        check.due("farthest(0, 0) alone", closed.farthest(0, 0), 0);
+        check.due("farthest(0, 1) alone", closed.farthest(0, 1), 0);
+        check.due("farthest(65, 0) alone", closed.farthest(65, 0), 65);
         check.due("farthest(52, 0) alone", closed.farthest(52, 0), 52);
         check.due("farthest(52, 1) alone", closed.farthest(52, 1), 0);
         int[] bad = {Integer.MIN_VALUE, -1, 2, Integer.MAX_VALUE};
@@ -148,6 +171,18 @@ public final class WaysTest {
         dueLongest(closed, 2, 6, 8);
         dueLongest(Mazes.opened("I"), 7, 2, 25);
         dueLongest(Mazes.opened("O"), 9, 0, 29);
+        // A star of three rooms around 27: the lowest first room, and of two other ones the lower one.
+        WordMaze star = Mazes.of("I");
+        star.door(27, 0, 1);
+        star.door(27, 1, 1);
+        star.door(27, 3, 1);
+        dueLongest(star, 2, 22, 26);
+        star.door(27, 3, 0);
+        dueLongest(star, 2, 22, 28);
+        star.door(2, 2, 1);
+        dueLongest(star, 2, 22, 28);
+        star.door(7, 2, 1);
+        dueLongest(star, 2, 2, 12);
         int[] bad = {Integer.MIN_VALUE, -1, 3, Integer.MAX_VALUE};
         for (int what : bad) {
             check.due("longest(" + what + ")", closed.longest(what), -1);
@@ -239,6 +274,40 @@ public final class WaysTest {
         maze.goal(58);
         // 11 rooms aside: (0 + 5) / 10
         check.due("the start in the goal", maze.grade(), 0);
+    }
+
+    /** The last value of each grade and the first one of the next: doors + 4 * forks + rooms aside / 2. */
+    private void eachGrade() {
+        for (int value = 2; value <= 111; value++) {
+            int forks = 0;
+            while (value - 9 * forks / 2 > 30) {
+                forks += 2;
+            }
+            int doors = value - 4 * forks - forks / 2;
+            check.due("grade of " + doors + " doors and " + forks + " forks", along(doors, forks).grade(),
+                Math.min(value / 10, 9));
+        }
+        check.due("grade of 34 doors and 28 forks", along(34, 28).grade(), 9);
+        check.due("grade of 8 doors and a fork: 12", along(8, 1).grade(), 1);
+        check.due("grade of 5 doors and a fork: 9 and a half less", along(5, 1).grade(), 0);
+        check.due("grade of 5 doors and 3 forks: 18 and a half less", along(5, 3).grade(), 1);
+        check.due("grade of 6 doors and 3 forks: 19 and a half less", along(6, 3).grade(), 1);
+        check.due("grade of 7 doors and 3 forks: 20 and a half less", along(7, 3).grade(), 2);
+    }
+
+    /** Doors in a row from the cell 175 on, the goal at their end, and forks from the highest columns down. */
+    private WordMaze along(int doors, int forks) {
+        WordMaze maze = Mazes.of("LLLLLL");
+        for (int k = 0; k < doors; k++) {
+            maze.door(175 + k, 1, 1);
+        }
+        maze.goal(175 + doors);
+        int opened = 0;
+        for (int k = doors - 1; k >= 1 && opened < forks; k--) {
+            opened += maze.door(175 + k, 0, 1) == 0 ? 1 : 0;
+        }
+        check.due("forks along " + doors + " doors", maze.count(9), forks);
+        return maze;
     }
 
     private void roomsAreAsked() {
