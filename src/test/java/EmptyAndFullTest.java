@@ -79,6 +79,11 @@ public final class EmptyAndFullTest {
         due(200, there(25, 2, "RL", "LR"), 198, 2, 25);
         due(199, there(25, 26, "UD", "R"), 0, 2, 25);
         due(199, there(25, 2, "RL", "R"), 199, 5, 26);
+        WordMaze full = there(25, 27, "RL", "RR");
+        check.due("one more", full.type('U'), -3);
+        due(200, full, -4, -4, 27);
+        check.due("one more that is none", full.type(127), -1);
+        due(200, full, -4, -4, 27);
         WordMaze closed = there(25, 27, "RL", "RR");
         closed.door(27, 3, 0);
         due(200, closed, 199, 3, 26);

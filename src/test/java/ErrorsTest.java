@@ -24,7 +24,10 @@ public final class ErrorsTest {
         test.check.end();
     }
 
-    /** The word "HI" with 20 signs, 200 characters, five states and, if not single, a closed door more than a tree. */
+    /**
+     * The word "HI" with 20 signs, five states, 200 characters, each of them a move that is possible, and, if it is
+     * not to be single, a door less.
+     */
     private static WordMaze busy(boolean single) {
         WordMaze maze = new WordMaze();
         int signs = 0;
@@ -40,7 +43,7 @@ public final class ErrorsTest {
         maze.start(65);
         maze.goal(22);
         for (int k = 0; k < 200; k++) {
-            maze.type("LRURDLx".charAt(k % 7));
+            maze.type("LR".charAt(k % 2));
         }
         return maze;
     }
@@ -177,7 +180,9 @@ public final class ErrorsTest {
         error("full: sign", kind, -3, maze -> maze.sign(65, 0, 0));
         error("full: unsign", kind, -4, maze -> maze.unsign(65));
         error("full: points", kind, -2, maze -> maze.points(65));
-        error("full: type", kind, -3, maze -> maze.type('U'));
+        for (int character : new int[] {'U', 'R', 'D', 'L', ' ', '~'}) {
+            error("full: type", kind, -3, maze -> maze.type(character));
+        }
     }
 
     private void fullSingle() {
@@ -194,6 +199,9 @@ public final class ErrorsTest {
     private void few() {
         Kind kind = ErrorsTest::small;
         check.due("few: states", small().count(14), 4);
+        check.due("full: states", busy(false).count(14), 5);
+        check.due("full: moves", busy(false).fault(0), 200);
+        check.due("full single: moves", busy(true).fault(0), 200);
         error("few: letter", kind, -4, maze -> maze.letter(1, 4));
         error("few: letterOf", kind, -4, maze -> maze.letterOf(29));
         error("few: isRoom", kind, -1, maze -> maze.isRoom(30));
